@@ -88,6 +88,7 @@ public final class AtTest {
             check.due("things at " + row[0], x.at(0, row[0], 5), row[2]);
             check.due("link at " + row[0], x.at(0, row[0], 6), row[3]);
         }
+        check.due("things at 0, asked behind a later minute", x.at(0, 0, 5), 0);
     }
 
     private static void lateMessages(Check check) {
@@ -97,6 +98,7 @@ public final class AtTest {
         standing(check, x, 30, 0, 0, 0, -1);
         x.message(0, 10, 1, 3);
         standing(check, x, 30, 2, 20, -1, 3);
+        standing(check, x, 9, 0, 0, 0, -1);
         // Of one minute the greater number counts later.
         x.message(0, 20, 6, 0);
         standing(check, x, 20, 6, 20, -1, -1);

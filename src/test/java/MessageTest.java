@@ -78,6 +78,8 @@ public final class MessageTest {
         check.refused("the 201st, no value", Check.RANGE, () -> x.message(0, 0, 12, 10));
         check.due("told(5)", x.told(5), 200);
         check.due("told(0)", x.told(0), 1);
+        check.due("told(1) of 200", x.told(1), 0);
+        check.due("wrong(199)", x.wrong(199), 0);
         check.due("crew before all", x.at(0, 99_799, 4), 0);
         check.due("crew by the earliest, told last", x.at(0, 99_800, 4), 9);
         check.due("crew by the latest, told first", x.at(0, 99_999, 4), 0);
