@@ -1,231 +1,305 @@
-/** Promise 4: at. */
+/** Promise 4: at; its driving and sendable stand in DrivingTest. */
 public final class AtTest {
+    /** A way through all states, a minute each from minute 10 on. */
+    private static final int[] WAY = {1, 2, 3, 4, 5, 1, 2, 6, 7, 0, 10, 9, 8, 0};
+
     public static void main(String[] args) {
         Check check = new Check();
-        refusals(check);
-        course(check);
-        reports(check);
+        states(check);
+        sinceItsMessage(check);
+        sinceWithinOneMinute(check);
+        sinceIsNotMovedByWrongOnes(check);
+        stationOnlyInState0(check);
+        stationIsTheLatestOne(check);
+        incidentInStates1To5(check);
+        incidentIsTheLatestOne(check);
+        crew(check);
+        things(check);
+        link(check);
+        rankInStates3To5(check);
+        ranksByMinutes(check);
+        ranksByMessagesNumbers(check);
+        ranksOfTheSameIncidentAlone(check);
+        ranksOfThoseThatAreThere(check);
+        ranksByTheLatestArrival(check);
         lateMessages(check);
-        driving(check);
-        restsInOneState(check);
-        sendable(check);
-        ranks(check);
         check.end();
     }
 
-    private static void refusals(Check check) {
-        UnitStates x = new UnitStates();
-        x.unit(0, 0);
-        for (int what = 0; what <= 9; what++) {
-            int of = what;
-            for (int t : new int[] {-1, 100_000, Integer.MIN_VALUE, Integer.MAX_VALUE}) {
-                check.refused("at(0, " + t + ", " + what + ")", Check.RANGE, () -> x.at(0, t, of));
-            }
-            check.refused("at(1, -1, " + what + ")", Check.UNKNOWN, () -> x.at(1, -1, of));
-            check.refused("at(-1, 0, " + what + ")", Check.UNKNOWN, () -> x.at(-1, 0, of));
-        }
-        for (int what : new int[] {-1, 10, Integer.MIN_VALUE, Integer.MAX_VALUE}) {
-            check.refused("at(0, 0, " + what + ")", Check.UNKNOWN, () -> x.at(0, 0, what));
-            check.refused("at(0, -1, " + what + ")", Check.UNKNOWN, () -> x.at(0, -1, what));
-        }
-    }
-
-    /** state, since, station, incident */
-    private static void standing(Check check, UnitStates x, int t, int... due) {
-        for (int what = 0; what < due.length; what++) {
-            check.due("at(0, " + t + ", " + what + ")", x.at(0, t, what), due[what]);
-        }
-    }
-
-    private static void course(Check check) {
+    private static UnitStates onItsWay() {
         UnitStates x = new UnitStates();
         x.unit(4, 0);
-        x.message(0, 10, 1, 19);
-        x.message(0, 11, 2, 0);
-        x.message(0, 12, 3, 0);
-        x.message(0, 13, 4, 0);
-        x.message(0, 14, 5, 0);
-        x.message(0, 15, 1, 7);
-        x.message(0, 16, 2, 0);
-        x.message(0, 17, 6, 0);
-        x.message(0, 18, 7, 0);
-        x.message(0, 19, 0, 5);
-        x.message(0, 20, 10, 0);
-        x.message(0, 21, 9, 0);
-        x.message(0, 22, 8, 0);
-        x.message(0, 99_999, 0, 4);
-        standing(check, x, 0, 0, 0, 4, -1);
-        standing(check, x, 9, 0, 0, 4, -1);
-        standing(check, x, 10, 1, 10, -1, 19);
-        standing(check, x, 11, 2, 11, -1, 19);
-        standing(check, x, 12, 3, 12, -1, 19);
-        standing(check, x, 13, 4, 13, -1, 19);
-        standing(check, x, 14, 5, 14, -1, 19);
-        standing(check, x, 15, 1, 15, -1, 7);
-        standing(check, x, 16, 2, 16, -1, 7);
-        standing(check, x, 17, 6, 17, -1, -1);
-        standing(check, x, 18, 7, 18, -1, -1);
-        standing(check, x, 19, 0, 19, 5, -1);
-        standing(check, x, 20, 10, 20, -1, -1);
-        standing(check, x, 21, 9, 21, -1, -1);
-        standing(check, x, 22, 8, 22, -1, -1);
-        standing(check, x, 99_998, 8, 22, -1, -1);
-        standing(check, x, 99_999, 0, 99_999, 4, -1);
+        for (int i = 0; i < WAY.length; i++) {
+            x.message(0, 10 + i, WAY[i], i == 0 ? 19 : 5);
+        }
+        return x;
     }
 
-    private static void reports(Check check) {
-        UnitStates x = new UnitStates();
-        x.unit(0, 3);
-        x.message(0, 10, 12, 5);
-        x.message(0, 20, 13, 255);
-        x.message(0, 30, 14, 0);
-        x.message(0, 40, 12, 2);
-        x.message(0, 40, 13, 6);
-        x.message(0, 40, 14, 1);
-        int[][] due = {{9, 3, 0, 1}, {10, 5, 0, 1}, {20, 5, 255, 1}, {30, 5, 255, 0}, {40, 2, 6, 1}};
-        for (int[] row : due) {
-            check.due("crew at " + row[0], x.at(0, row[0], 4), row[1]);
-            check.due("things at " + row[0], x.at(0, row[0], 5), row[2]);
-            check.due("link at " + row[0], x.at(0, row[0], 6), row[3]);
+    private static void due(Check check, UnitStates x, int t, int what, int due) {
+        check.due("at(0, " + t + ", " + what + ")", x.at(0, t, what), due);
+    }
+
+    private static void states(Check check) {
+        UnitStates x = onItsWay();
+        due(check, x, 0, 0, 0);
+        due(check, x, 9, 0, 0);
+        for (int i = 0; i < WAY.length; i++) {
+            due(check, x, 10 + i, 0, WAY[i]);
         }
-        check.due("things at 0, asked behind a later minute", x.at(0, 0, 5), 0);
+        due(check, x, 99_999, 0, 0);
+    }
+
+    private static void sinceItsMessage(Check check) {
+        UnitStates x = new UnitStates();
+        x.unit(0, 0);
+        x.message(0, 10, 8, 0);
+        x.message(0, 20, 0, 0);
+        x.message(0, 99_999, 8, 0);
+        int[][] rows = {{0, 0}, {9, 0}, {10, 10}, {11, 10}, {19, 10}, {20, 20}, {99_998, 20}};
+        for (int[] row : rows) {
+            due(check, x, row[0], 1, row[1]);
+        }
+        due(check, x, 99_999, 1, 99_999);
+    }
+
+    private static void sinceWithinOneMinute(Check check) {
+        UnitStates x = new UnitStates();
+        x.unit(0, 0);
+        x.message(0, 10, 8, 0);
+        x.message(0, 20, 0, 0);
+        x.message(0, 20, 8, 0);
+        due(check, x, 19, 1, 10);
+        due(check, x, 20, 0, 8);
+        due(check, x, 20, 1, 20);
+    }
+
+    private static void sinceIsNotMovedByWrongOnes(Check check) {
+        UnitStates x = new UnitStates();
+        x.unit(0, 0);
+        x.message(0, 10, 8, 0);
+        x.message(0, 11, 8, 0);
+        x.message(0, 12, 1, 3);
+        due(check, x, 12, 0, 8);
+        due(check, x, 12, 1, 10);
+    }
+
+    private static void stationOnlyInState0(Check check) {
+        UnitStates x = onItsWay();
+        due(check, x, 9, 2, 4);
+        for (int i = 0; i < WAY.length; i++) {
+            due(check, x, 10 + i, 2, WAY[i] == 0 ? 5 : -1);
+        }
+    }
+
+    private static void stationIsTheLatestOne(Check check) {
+        UnitStates x = new UnitStates();
+        x.unit(4, 0);
+        x.message(0, 10, 0, 7);
+        due(check, x, 10, 2, 4);
+        x.message(0, 11, 1, 0);
+        x.message(0, 12, 0, 7);
+        due(check, x, 12, 2, 7);
+        x.message(0, 13, 9, 0);
+        x.message(0, 14, 0, 0);
+        due(check, x, 14, 2, 0);
+        x.message(0, 15, 9, 0);
+        x.message(0, 16, 0, 9);
+        due(check, x, 16, 2, 9);
+    }
+
+    /** "while it is in the states 1 .. 5; else none". */
+    private static void incidentInStates1To5(Check check) {
+        UnitStates x = onItsWay();
+        due(check, x, 9, 3, -1);
+        int[] incidents = {19, 19, 19, 19, 19, 5, 5, -1, -1, -1, -1, -1, -1, -1};
+        for (int i = 0; i < WAY.length; i++) {
+            due(check, x, 10 + i, 3, incidents[i]);
+        }
+    }
+
+    /** "the latest one it was alarmed for": a wrong alarm is none. */
+    private static void incidentIsTheLatestOne(Check check) {
+        UnitStates x = new UnitStates();
+        x.unit(0, 0);
+        x.message(0, 10, 1, 0);
+        x.message(0, 11, 1, 19);
+        due(check, x, 11, 3, 0);
+        x.message(0, 12, 0, 0);
+        due(check, x, 12, 3, -1);
+        x.message(0, 13, 1, 19);
+        due(check, x, 13, 3, 19);
+        x.message(0, 14, 2, 7);
+        due(check, x, 14, 3, 19);
+        x.message(0, 15, 3, 7);
+        x.message(0, 16, 1, 4);
+        due(check, x, 16, 3, 19);
+        x.message(0, 17, 5, 7);
+        x.message(0, 18, 1, 0);
+        due(check, x, 17, 3, 19);
+        due(check, x, 18, 3, 0);
+    }
+
+    /** "12 A CREW of so many (0 .. 9; at first the least)". */
+    private static void crew(Check check) {
+        for (int least : new int[] {0, 1, 8, 9}) {
+            UnitStates x = new UnitStates();
+            x.unit(0, least);
+            x.message(0, 10, 12, 9 - least);
+            x.message(0, 20, 12, 0);
+            due(check, x, 0, 4, least);
+            due(check, x, 9, 4, least);
+            due(check, x, 10, 4, 9 - least);
+            due(check, x, 19, 4, 9 - least);
+            due(check, x, 20, 4, 0);
+        }
+    }
+
+    /** "13 THINGS (bits 0 .. 255) that it has then (0 at first)": all of them, not more ones. */
+    private static void things(Check check) {
+        UnitStates x = Made.withUnits(1);
+        x.message(0, 10, 13, 255);
+        x.message(0, 20, 13, 1);
+        x.message(0, 30, 13, 128);
+        x.message(0, 40, 13, 0);
+        int[][] rows = {{0, 0}, {9, 0}, {10, 255}, {19, 255}, {20, 1}, {30, 128}, {40, 0}};
+        for (int[] row : rows) {
+            due(check, x, row[0], 5, row[1]);
+        }
+    }
+
+    /** "14 THE LINK is lost (0) or there (1, at first)". */
+    private static void link(Check check) {
+        UnitStates x = Made.withUnits(1);
+        x.message(0, 10, 14, 1);
+        x.message(0, 20, 14, 0);
+        x.message(0, 30, 14, 0);
+        x.message(0, 40, 14, 1);
+        int[][] rows = {{0, 1}, {10, 1}, {19, 1}, {20, 0}, {30, 0}, {39, 0}, {40, 1}};
+        for (int[] row : rows) {
+            due(check, x, row[0], 6, row[1]);
+        }
+        // All but a place counts while it is lost.
+        x.message(0, 25, 12, 7);
+        x.message(0, 25, 13, 7);
+        x.message(0, 25, 8, 0);
+        x.message(0, 25, 15, 7);
+        due(check, x, 25, 4, 7);
+        due(check, x, 25, 5, 7);
+        due(check, x, 25, 0, 8);
+        check.due("expected(0, 25)", x.expected(0, 25), 32);
+    }
+
+    /** "(0 when it has none)". */
+    private static void rankInStates3To5(Check check) {
+        UnitStates x = onItsWay();
+        due(check, x, 9, 9, 0);
+        for (int i = 0; i < WAY.length; i++) {
+            due(check, x, 10 + i, 9, WAY[i] >= 3 && WAY[i] <= 5 ? 1 : 0);
+        }
+    }
+
+    /** Units that are leaving for their incidents since minute 0. */
+    private static UnitStates leaving(int... incidents) {
+        UnitStates x = new UnitStates();
+        for (int unit = 0; unit < incidents.length; unit++) {
+            x.unit(0, 0);
+            x.message(unit, 0, 1, incidents[unit]);
+            x.message(unit, 0, 2, 0);
+        }
+        return x;
+    }
+
+    private static void ranks(Check check, UnitStates x, int t, int... due) {
+        for (int unit = 0; unit < due.length; unit++) {
+            check.due("at(" + unit + ", " + t + ", 9)", x.at(unit, t, 9), due[unit]);
+        }
+    }
+
+    private static void ranksByMinutes(Check check) {
+        UnitStates x = leaving(5, 5, 5);
+        x.message(0, 12, 3, 0);
+        x.message(1, 11, 3, 0);
+        x.message(2, 10, 3, 0);
+        ranks(check, x, 9, 0, 0, 0);
+        ranks(check, x, 10, 0, 0, 1);
+        ranks(check, x, 11, 0, 2, 1);
+        ranks(check, x, 12, 3, 2, 1);
+    }
+
+    /** Of one minute the smaller message's number is the earlier, whatever the unit's number. */
+    private static void ranksByMessagesNumbers(Check check) {
+        UnitStates x = leaving(5, 5, 5);
+        x.message(2, 10, 3, 0);
+        x.message(0, 10, 3, 0);
+        x.message(1, 10, 3, 0);
+        ranks(check, x, 9, 0, 0, 0);
+        ranks(check, x, 10, 2, 3, 1);
+        UnitStates late = leaving(5, 5);
+        late.message(1, 11, 3, 0);
+        late.message(0, 10, 3, 0);
+        ranks(check, late, 11, 1, 2);
+    }
+
+    private static void ranksOfTheSameIncidentAlone(Check check) {
+        UnitStates x = leaving(0, 19, 0, 19);
+        for (int unit = 0; unit < 4; unit++) {
+            x.message(unit, 10 + unit, 3, 0);
+        }
+        ranks(check, x, 13, 1, 1, 2, 2);
+    }
+
+    /** A unit that is on its way back, or alarmed again, has no rank and counts in none. */
+    private static void ranksOfThoseThatAreThere(Check check) {
+        UnitStates x = leaving(5, 5, 5);
+        for (int unit = 0; unit < 3; unit++) {
+            x.message(unit, 10 + unit, 3, 0);
+        }
+        x.message(0, 20, 4, 0);
+        x.message(0, 21, 5, 0);
+        x.message(0, 22, 6, 0);
+        x.message(1, 23, 5, 0);
+        x.message(1, 24, 1, 5);
+        ranks(check, x, 20, 1, 2, 3);
+        ranks(check, x, 21, 1, 2, 3);
+        ranks(check, x, 22, 0, 1, 2);
+        ranks(check, x, 23, 0, 1, 2);
+        ranks(check, x, 24, 0, 0, 1);
+    }
+
+    private static void ranksByTheLatestArrival(Check check) {
+        UnitStates x = leaving(5, 5);
+        x.message(0, 10, 3, 0);
+        x.message(1, 11, 3, 0);
+        x.message(0, 20, 5, 0);
+        x.message(0, 21, 1, 5);
+        x.message(0, 22, 2, 0);
+        x.message(0, 23, 3, 0);
+        // A wrong message at the scene brought it nowhere.
+        x.message(1, 24, 3, 0);
+        ranks(check, x, 20, 1, 2);
+        ranks(check, x, 21, 0, 1);
+        ranks(check, x, 22, 0, 1);
+        ranks(check, x, 23, 2, 1);
+        ranks(check, x, 24, 2, 1);
     }
 
     private static void lateMessages(Check check) {
         UnitStates x = new UnitStates();
         x.unit(0, 0);
         x.message(0, 20, 2, 0);
-        standing(check, x, 30, 0, 0, 0, -1);
+        due(check, x, 30, 0, 0);
         x.message(0, 10, 1, 3);
-        standing(check, x, 30, 2, 20, -1, 3);
-        standing(check, x, 9, 0, 0, 0, -1);
-        // Of one minute the greater number counts later.
+        due(check, x, 30, 0, 2);
+        due(check, x, 30, 3, 3);
+        due(check, x, 9, 0, 0);
         x.message(0, 20, 6, 0);
-        standing(check, x, 20, 6, 20, -1, -1);
+        due(check, x, 20, 0, 6);
         x.message(0, 20, 3, 0);
-        standing(check, x, 20, 6, 20, -1, -1);
+        due(check, x, 20, 0, 6);
         x.message(0, 15, 0, 8);
-        standing(check, x, 14, 1, 10, -1, 3);
-        standing(check, x, 99_999, 0, 15, 8, -1);
-    }
-
-    private static void driven(Check check, UnitStates x, int t, int due) {
-        check.due("at(0, " + t + ", 7)", x.at(0, t, 7), due);
-    }
-
-    private static void driving(Check check) {
-        UnitStates x = new UnitStates();
-        x.unit(0, 0);
-        x.message(0, 0, 1, 0);
-        x.message(0, 10, 2, 0);
-        x.message(0, 20, 3, 0);
-        x.message(0, 100, 5, 0);
-        x.message(0, 200, 6, 0);
-        x.message(0, 230, 0, 0);
-        x.message(0, 259, 1, 0);
-        x.message(0, 260, 2, 0);
-        x.message(0, 265, 6, 0);
-        x.message(0, 270, 7, 0);
-        x.message(0, 300, 6, 0);
-        x.message(0, 307, 7, 0);
-        int[][] due = {
-            {0, 0}, {9, 0}, {10, 0}, {11, 1}, {20, 10}, {21, 10}, {199, 10}, {200, 10}, {201, 11},
-            {230, 40}, {258, 40}, {259, 40}, {260, 40}, {262, 42}, {265, 45}, {266, 46}, {270, 50},
-            {299, 50}, {300, 0}, {301, 1}, {307, 7}, {336, 7}, {337, 0}, {99_999, 0}
-        };
-        for (int[] row : due) {
-            driven(check, x, row[0], row[1]);
-        }
-    }
-
-    /** Rest is on end in ONE of the states: a change from one to another begins it anew. */
-    private static void restsInOneState(Check check) {
-        for (int state = 7; state <= 10; state++) {
-            UnitStates x = new UnitStates();
-            x.unit(0, 0);
-            x.message(0, 0, 1, 0);
-            x.message(0, 0, 2, 0);
-            x.message(0, 5, 6, 0);
-            x.message(0, 50, 0, 0);
-            x.message(0, 70, state, 0);
-            driven(check, x, 79, 50);
-            driven(check, x, 80, 50);
-            driven(check, x, 99, 50);
-            driven(check, x, 100, 0);
-            // What is no change, or wrong, does not end a rest.
-            x.message(0, 85, 12, 4);
-            x.message(0, 86, 3, 0);
-            x.message(0, 87, state, 0);
-            driven(check, x, 99, 50);
-            driven(check, x, 100, 0);
-        }
-    }
-
-    private static void sends(Check check, UnitStates x, int t, int due) {
-        check.due("at(0, " + t + ", 8)", x.at(0, t, 8), due);
-    }
-
-    private static void sendable(Check check) {
-        UnitStates x = new UnitStates();
-        x.unit(0, 2);
-        int[] states = {1, 2, 3, 4, 5, 6, 7, 0, 8, 9, 0, 10, 0};
-        for (int i = 0; i < states.length; i++) {
-            x.message(0, i + 1, states[i], 0);
-        }
-        sends(check, x, 0, 1);
-        for (int i = 0; i < states.length; i++) {
-            int state = states[i];
-            sends(check, x, i + 1, state == 0 || state == 5 || state == 6 ? 1 : 0);
-        }
-        x.message(0, 20, 12, 1);
-        x.message(0, 21, 12, 2);
-        x.message(0, 22, 14, 0);
-        x.message(0, 23, 14, 1);
-        int[] due = {0, 1, 0, 1};
-        for (int i = 0; i < due.length; i++) {
-            sends(check, x, 20 + i, due[i]);
-        }
-        x.message(0, 1_000, 1, 0);
-        x.message(0, 1_000, 2, 0);
-        x.message(0, 1_001, 6, 0);
-        sends(check, x, 1_239, 1);
-        sends(check, x, 1_240, 0);
-        x.message(0, 1_240, 0, 0);
-        sends(check, x, 1_269, 0);
-        sends(check, x, 1_270, 1);
-    }
-
-    private static void ranks(Check check) {
-        UnitStates x = new UnitStates();
-        for (int unit = 0; unit < 4; unit++) {
-            x.unit(0, 0);
-            x.message(unit, 0, 1, unit == 3 ? 8 : 9);
-            x.message(unit, 0, 2, 0);
-        }
-        // Of one minute the smaller number arrived earlier, whatever the unit's number.
-        x.message(2, 10, 3, 0);
-        x.message(0, 10, 3, 0);
-        x.message(3, 5, 3, 0);
-        x.message(1, 9, 3, 0);
-        x.message(1, 20, 5, 0);
-        x.message(1, 30, 6, 0);
-        int[][] due = {
-            {4, 0, 0, 0, 0}, {5, 0, 0, 0, 1}, {9, 0, 1, 0, 1}, {10, 3, 1, 2, 1}, {29, 3, 1, 2, 1},
-            {30, 2, 0, 1, 1}
-        };
-        for (int[] row : due) {
-            for (int unit = 0; unit < 4; unit++) {
-                check.due("at(" + unit + ", " + row[0] + ", 9)",
-                        x.at(unit, row[0], 9), row[unit + 1]);
-            }
-        }
-        // Back at the same incident, it is ranked by its latest arrival.
-        x.message(2, 40, 5, 0);
-        x.message(2, 41, 1, 9);
-        x.message(2, 42, 2, 0);
-        check.due("rank while it comes again", x.at(2, 42, 9), 0);
-        x.message(2, 43, 3, 0);
-        check.due("rank of the one that came again", x.at(2, 43, 9), 2);
-        check.due("rank of the one that stayed", x.at(0, 43, 9), 1);
+        due(check, x, 14, 0, 1);
+        due(check, x, 99_999, 0, 0);
+        due(check, x, 99_999, 1, 15);
+        due(check, x, 99_999, 2, 8);
     }
 }
